@@ -11,6 +11,7 @@ public final class Eightways {
     private static final int SLOTS = 8;
     private static final int MOST_DIGITS = 18;
     private static final int MOST_SCALE = 9;
+    private static final long MOST_LONG = 9223372036854775807L;
     private static final int MOST_SHIFT = 9;
     private static final int MOST_FACTORS = 9;
     private static final int MOST_KEPT = 8;
@@ -22,7 +23,8 @@ public final class Eightways {
     private static final int MOST_TOLD = 28;
     private static final int MOST_BEHIND_MARK = 4;
     private static final char NO_SIGN = (char) 0;
-    private static final int NO_EXPONENT = Integer.MIN_VALUE;
+    /** No exponent that is read has five digits. */
+    private static final int NO_EXPONENT = 10000;
 
     /** What becomes of an act. */
     private static final int FINE = 0;
@@ -419,9 +421,10 @@ public final class Eightways {
         return made.countDigits();
     }
 
-    /** Ten to a power; 1 for an exponent below 0, as nothing is raised then. */
+    /** Ten to a power; 1 for an exponent below 0, as nothing is raised then. It is a divisor, so never 0. */
     private static long powerOfTen(int exponent) {
-        return exponent >= 0 && exponent < POWERS_OF_TEN.length ? POWERS_OF_TEN[exponent] : 1L;
+        boolean known = exponent >= 0 && exponent < POWERS_OF_TEN.length;
+        return Math.max(1L, known ? POWERS_OF_TEN[exponent] : 1L);
     }
 
     /** Ten thirds of a precision, rounded up: so many digits a quotient by such a number can add. */
@@ -646,7 +649,7 @@ public final class Eightways {
         }
 
         boolean isLong() {
-            long most = Long.MAX_VALUE / powerOfTen(-scale);
+            long most = MOST_LONG / powerOfTen(-scale);
             return digits >= -most && digits <= most;
         }
 
@@ -780,7 +783,7 @@ public final class Eightways {
             if (preferred >= 0) {
                 become(raised(preferred), preferred);
             } else {
-                dropZeros(preferred);
+                dropZeros(-preferred);
             }
             return FINE;
         }
@@ -818,13 +821,12 @@ public final class Eightways {
             if (digits == 0) {
                 scale = 0;
             } else {
-                dropZeros(scale - MOST_DIGITS);
+                dropZeros(MOST_DIGITS);
             }
         }
 
-        /** Takes zeros at the end away, till there is none or the scale is the least one. */
-        private void dropZeros(int leastScale) {
-            while (scale > leastScale && digits % 10 == 0) {
+        private void dropZeros(int most) {
+            for (int dropped = 0; dropped < most && digits % 10 == 0; dropped++) {
                 become(digits / 10, scale - 1);
             }
         }
