@@ -338,6 +338,7 @@ public final class KeepingTest extends Sentences {
         dueFirst(NO_SLOT, y -> y.product(0, 1, 8));
         dueFirst(NO_SLOT, y -> y.power(8, 10, 7));
         dueFirst(NO_SLOT, y -> y.power(2, -1, 8));
+        dueFirst(NO_SLOT, y -> y.power(2, 10, 8));
         dueFirst(NO_SLOT, y -> y.power(0, 2, 8));
         dueFirst(WRONG, y -> y.power(0, 10, 7));
         dueFirst(WRONG, y -> y.power(5, 10, 7));
@@ -362,6 +363,7 @@ public final class KeepingTest extends Sentences {
     private void documentedFirstOfRounding() {
         dueFirst(NO_SLOT, y -> y.rescale(8, 0, 'x', 7));
         dueFirst(NO_SLOT, y -> y.rescale(2, 10, 'd', 8));
+        dueFirst(NO_SLOT, y -> y.rescale(2, 0, 'x', 8));
         dueFirst(NO_SLOT, y -> y.rescale(0, 0, 'd', 8));
         dueFirst(NO_SLOT, y -> y.rescale(2, 0, 'n', 8));
         dueFirst(WRONG, y -> y.rescale(0, 0, 'x', 7));
@@ -369,6 +371,7 @@ public final class KeepingTest extends Sentences {
         dueFirst(WRONG, y -> y.rescale(2, -10, 'n', 7));
         dueFirst(NO_SLOT, y -> y.round(8, 19, 'd', 7));
         dueFirst(NO_SLOT, y -> y.round(2, 1, 'x', 8));
+        dueFirst(NO_SLOT, y -> y.round(2, 19, 'd', 8));
         dueFirst(NO_SLOT, y -> y.round(6, 1, 'd', 8));
         dueFirst(NO_SLOT, y -> y.round(2, 1, 'n', 8));
         dueFirst(WRONG, y -> y.round(6, 1, 'x', 7));
@@ -379,6 +382,8 @@ public final class KeepingTest extends Sentences {
     private void documentedFirstOfDivisions() {
         dueFirst(NO_SLOT, y -> y.quotient(8, 1, 0, 'x', 7));
         dueFirst(NO_SLOT, y -> y.quotient(2, 8, 10, 'd', 7));
+        dueFirst(NO_SLOT, y -> y.quotient(2, 3, 10, 'd', 8));
+        dueFirst(NO_SLOT, y -> y.quotient(2, 3, 0, 'x', 8));
         dueFirst(NO_SLOT, y -> y.quotient(0, 3, 0, 'd', 8));
         dueFirst(NO_SLOT, y -> y.quotient(2, 1, 0, 'd', 8));
         dueFirst(WRONG, y -> y.quotient(0, 3, 0, 'x', 7));

@@ -392,6 +392,7 @@ public final class PromisesTest extends Sentences {
         dueCompared(100000000000000000L, 8, 1, -9, 0);
         dueCompared(100000000000000001L, 8, 1, -9, 1);
         dueCompared(99, 0, 1, -2, -1);
+        dueCompared(1L << 46, -9, 5, 9, 1); // times 10 to the power of 18 this would go round to 0
         dueCompared(0, 9, 1, 9, -1);
         dueCompared(0, -9, -1, 9, 1);
 
@@ -668,8 +669,9 @@ public final class PromisesTest extends Sentences {
     }
 
     private void isSound() {
-        long[][] numbers = {{0, -9}, {0, 9}, {MOST, 9}, {-MOST, -9}, {1, -9}, {-5, 1}, {-15, 1}, {25, 1}, {-2549, 3}, {150, 2},
-            {15, 1}, {3, 0}, {7, -2}, {-100000000000000000L, 8}, {12345, 0}, {-5, 9}};
+        long[][] numbers = {{0, 0}, {0, -9}, {0, 9}, {MOST, 9}, {-MOST, -9}, {1, -9}, {-5, 1}, {-15, 1}, {25, 1}, {-2549, 3},
+            {150, 2}, {15, 1}, {3, 0}, {7, -2}, {-100000000000000000L, 8}, {12345, 0}, {-5, 9},
+            {-1, 9}, {1, 9}, {-1, 3}, {1, 0}, {-1, 0}};
         section("Promise 38: isSound");
         sentence("Checks the theorem for what the slots hold: each way between its neighbours at the scales -1 to 2, in one step "
                 + "and in two; turned numbers; texts that are read back; whole quotients and remainders, where they are not "
