@@ -484,6 +484,10 @@ public final class ActPromisesTest extends Sentences {
         dueThrow(UNDEFINED, () -> x.exactQuotient(4, 1, 7));
         dueThrow(UNDEFINED, () -> x.exactQuotient(5, 1, 7));
         dueNumber(x.exactQuotient(2, 6, 7), 7, 4, 2);
+        fresh(6, 9, 0, -9, 7, -9, 6, -9, 0, 9); // nothing comes of these, so that there is nothing that must be near
+        dueThrow(UNDEFINED, () -> x.exactQuotient(0, 1, 7));
+        dueThrow(UNDEFINED, () -> x.exactQuotient(0, 2, 7));
+        dueThrow(UNDEFINED, () -> x.exactQuotient(3, 4, 7));
     }
 
     private void wholeQuotient() {
@@ -519,6 +523,10 @@ public final class ActPromisesTest extends Sentences {
         dueThrow(UNDEFINED, () -> x.wholeQuotient(0, 2, 7));
         dueThrow(UNDEFINED, () -> x.wholeQuotient(3, 1, 7));
         dueThrow(UNDEFINED, () -> x.wholeQuotient(2, 4, 7));
+        fresh(5, 5, 0, -5, 5, -6, 0, 5, 0, 6);
+        dueThrow(UNDEFINED, () -> x.wholeQuotient(0, 1, 7));
+        dueThrow(UNDEFINED, () -> x.wholeQuotient(2, 3, 7));
+        dueThrow(REFUSED, () -> x.wholeQuotient(2, 4, 7));
     }
 
     private void remainder() {
@@ -555,6 +563,10 @@ public final class ActPromisesTest extends Sentences {
         dueThrow(UNDEFINED, () -> x.remainder(0, 2, 7));
         dueThrow(UNDEFINED, () -> x.remainder(3, 1, 7));
         dueThrow(UNDEFINED, () -> x.remainder(2, 4, 7));
+        fresh(5, 5, 0, -5, 5, -6, 0, 5, 0, 6);
+        dueThrow(UNDEFINED, () -> x.remainder(0, 1, 7));
+        dueThrow(UNDEFINED, () -> x.remainder(2, 3, 7));
+        dueThrow(REFUSED, () -> x.remainder(2, 4, 7));
     }
 
     // ---- one number
