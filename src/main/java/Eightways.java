@@ -424,7 +424,8 @@ public final class Eightways {
     /** Ten to a power; 1 for an exponent below 0, as nothing is raised then. It is a divisor, so never 0. */
     private static long powerOfTen(int exponent) {
         boolean known = exponent >= 0 && exponent < POWERS_OF_TEN.length;
-        return Math.max(1L, known ? POWERS_OF_TEN[exponent] : 1L);
+        long power = known ? POWERS_OF_TEN[exponent] : 1L;
+        return power > 0 ? power : 1L;
     }
 
     /** Ten thirds of a precision, rounded up: so many digits a quotient by such a number can add. */
@@ -468,21 +469,25 @@ public final class Eightways {
         private int count;
 
         void keep(int slot, Decimal held) {
-            int place = Math.floorMod(next, MOST_KEPT);
-            slots[place] = slot;
-            digits[place] = held.digits;
-            scales[place] = held.scale;
-            next = place + 1;
+            if (next < 0 || next >= MOST_KEPT) {
+                next = 0;
+            }
+            slots[next] = slot;
+            digits[next] = held.digits;
+            scales[next] = held.scale;
+            next++;
             count = Math.min(count + 1, MOST_KEPT);
         }
 
         /** Asked only while there is one. */
         int takeLatest(Decimal into) {
-            int place = Math.floorMod(next - 1, MOST_KEPT);
-            into.become(digits[place], scales[place]);
-            next = place;
+            next--;
+            if (next < 0 || next >= MOST_KEPT) {
+                next = MOST_KEPT - 1;
+            }
+            into.become(digits[next], scales[next]);
             count--;
-            return slots[place];
+            return slots[next];
         }
     }
 
